@@ -324,6 +324,8 @@ public final class PromiseTest {
         faultIs("d00000000 o/000", 11);
         faultIs("d0000000: ", 8);
         faultIs("d00000000 o000" + (char) 176, 14);
+        faultIs("d00000000" + " ".repeat(70) + "o", 80);
+        faultIs("d00000000" + " ".repeat(66) + "o7716", NONE);
         TomorrowPage x = new TomorrowPage();
         check.refused("fault(-1)", x, () -> x.fault(-1), BAD);
         check.refused("fault(4)", x, () -> x.fault(4), BAD);
@@ -624,6 +626,7 @@ public final class PromiseTest {
         check.due("sure(0)", x, x.sure(0), 130, 125);
         check.due("sure(1)", x, x.sure(1), 130, 124);
         check.due("sure(3)", x, x.sure(3), 128, 124);
+        check.due("sure(0) behind one of more PAGES", x, x.sure(0), 130, 125);
         check.refused("sure(4)", x, () -> x.sure(4), BAD);
         check.refused("sure(-1)", x, () -> x.sure(-1), BAD);
         TomorrowPage liar = Check.town("d00000000r0000");
@@ -657,6 +660,8 @@ public final class PromiseTest {
         check.due("look(3, 255, 8)", x, x.look(3, 255, 8), NONE, 0);
         check.found("look(3, 255, 1)", x, () -> x.look(3, 255, 1), NOUGHT);
         check.found("look(3, 1, 1)", x, () -> x.look(3, 1, 1), NOUGHT);
+        TomorrowPage three = Check.town("d00000000o0000o1000o1100");
+        check.due("look(7, 0, 0) of 0, 1, 3", three, three.look(7, 0, 0), 0, 2);
         check.refused("look(4, 0, 0)", x, () -> x.look(4, 0, 0), BAD);
         check.refused("look(-1, 0, 0)", x, () -> x.look(-1, 0, 0), BAD);
         check.refused("look(0, 256, 0)", x, () -> x.look(0, 256, 0), BAD);
@@ -798,6 +803,12 @@ public final class PromiseTest {
         check.due("edit(128, 128)", x, x.edit(128, 128), NONE, 2);
         check.due("edit(7, 0)", x, x.edit(7, 0), 0, 0);
         check.due("edit(0, 255)", x, x.edit(0, 255), 0, 0);
+        TomorrowPage all = Check.town("d00000000o0000o1100");
+        check.due("by all", all, all.edit(3, 3), 2, 3);
+        TomorrowPage none = new TomorrowPage();
+        none.yesterday(6);
+        check.due("as YESTERDAY, without PEOPLE", none, none.edit(3, 2), 0, 0);
+        check.due("otherwise, without PEOPLE", none, none.edit(3, 3), NONE, 0);
         check.refused("edit(256, 0)", x, () -> x.edit(256, 0), BAD);
         check.refused("edit(-1, 0)", x, () -> x.edit(-1, 0), BAD);
         check.refused("edit(0, 256)", x, () -> x.edit(0, 256), BAD);
@@ -844,6 +855,10 @@ public final class PromiseTest {
         check.refused("lead(0, -1, 0)", x, () -> x.lead(0, -1, 0), BAD);
         check.refused("lead(0, 0, 6)", x, () -> x.lead(0, 0, 6), BAD);
         check.refused("lead(0, 0, -1)", x, () -> x.lead(0, 0, -1), BAD);
+        x.yesterday(128);
+        check.due("reach()", x.reach(), 4);
+        x.yesterday(5);
+        check.due("lead(128, 128, 0)", x.lead(128, 128, 0), NONE);
         TomorrowPage liar = Check.town("d00000000r0010");
         check.due("by nobody", liar.lead(1, 1, 0), 1);
         rowIs(liar, 0, 9001);
@@ -909,6 +924,8 @@ public final class PromiseTest {
         TomorrowPage two = Check.town("d00000000o0003r0004r0004r0004o0003");
         check.due("by two", two, two.nerve(), 2, 1);
         check.due("person(1, 4)", two, two.person(1, 4), 1, 4);
+        TomorrowPage six = Check.town("d00000000g0001o0005o0000g0005r0006g0006");
+        check.due("up to 6", six, six.nerve(), 1, 1);
         TomorrowPage none = Check.town("d00000000r0002r0002r0002r0002");
         none.person(0, 4);
         check.due("none by one alone", none, none.nerve(), NONE, 2);
