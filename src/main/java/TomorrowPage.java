@@ -296,9 +296,7 @@ public final class TomorrowPage {
         if (!here.isSet(readers)) {
             return BAD;
         }
-        agreeing.gather(here, readers);
-        told = agreeing.first(0, 0);
-        return agreeing.size;
+        return tellAgreeing(readers, 0, 0);
     }
 
     public int nth(int i, int readers) {
@@ -328,9 +326,7 @@ public final class TomorrowPage {
         if (!here.isSet(readers) || !isPage(seen) || !isPage(page)) {
             return BAD;
         }
-        agreeing.gather(here, readers);
-        told = agreeing.first(seen, page);
-        return agreeing.howMany(seen, page);
+        return tellAgreeing(readers, seen, page);
     }
 
     public int look(int readers, int seen, int page) {
@@ -451,9 +447,7 @@ public final class TomorrowPage {
         if ((seesOther >> here.trait(y, WATCHES) & 1) == 1) {
             readers |= 1 << y;
         }
-        agreeing.gather(here, readers);
-        told = agreeing.first(0, 0);
-        return agreeing.size;
+        return tellAgreeing(readers, 0, 0);
     }
 
     public int spoil(int x, int page) {
@@ -661,6 +655,13 @@ public final class TomorrowPage {
     /** Sets of FACTS, PAGES and DAYS are all eight bits. */
     private static boolean isPage(int page) {
         return page >= 0 && page < PAGES;
+    }
+
+    /** How many PAGES AGREE that have FACTS of a set as on a PAGE; the least is told. */
+    private int tellAgreeing(int readers, int facts, int page) {
+        agreeing.gather(here, readers);
+        told = agreeing.first(facts, page);
+        return agreeing.howMany(facts, page);
     }
 
     private void tellOdds(int part, int whole) {
