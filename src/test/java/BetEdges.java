@@ -51,7 +51,8 @@ final class BetEdges {
     // All six bet, none of six, the last one alone.
     static void p39AllAndNone() {
         Run.town("d00000000g0000f0000g0006f0006o0000r0006").tells("bet(0)", 63, 6).tells("bet(6)", 31, 5);
-        Run.town("d00000000s0000s0006r0000l0000o0006o0005").does("agrees(9, 0)").tells("bet(0)", 0, 0).tells("bet(5)", 32, 1);
+        Run.town("d00000000s0000s0006r0000l0000o0006o0005").does("agrees(9, 0)").tells("bet(0)", 0, 0)
+            .tells("bet(5)", 32, 1);
     }
 
     // Without PEOPLE 0 COMES OUT: none bet.
@@ -130,7 +131,8 @@ final class BetEdges {
 
     // STATE: no PEOPLE; BAD ahead of it.
     static void p42WithoutPeople() {
-        Run.fresh().state("luck(1, 1)", "luck(40, 2147483646)").bad("luck(0, 1)", "luck(41, 1)", "luck(1, 0)", "luck(1, MAX)", "luck(-1, -1)");
+        Run.fresh().state("luck(1, 1)", "luck(40, 2147483646)")
+            .bad("luck(0, 1)", "luck(41, 1)", "luck(1, 0)", "luck(1, MAX)", "luck(-1, -1)");
         Run.rich().writes(0, "d00000000").does("town(0)").state("luck(1, 1)");
     }
 
@@ -139,19 +141,21 @@ final class BetEdges {
         one().due("luck(40, 1)", 40).due("count(1)", 40).full("luck(1, 1)", "luck(40, 1)");
         one().does("print(0, 0)").full("luck(40, 1)").due("luck(39, 1)", 39).due("count(1)", 40).full("luck(1, 1)");
         one().due("luck(39, 1)", 39).full("luck(2, 1)", "luck(40, 1)").due("luck(1, 1)", 1).full("luck(1, 1)");
-        Run.rich().full("luck(38, 1)", "luck(40, 1)").due("luck(37, 2)", Run.rich().answer("luck(37, 2)")).due("count(1)", 40);
+        Run.rich().full("luck(38, 1)", "luck(40, 1)").due("luck(37, 2)", 18).due("count(1)", 40);
     }
 
     // (FULL last.)
     static void p42FullLast() {
-        one().does("luck(40, 1)").bad("luck(41, 1)", "luck(0, 1)", "luck(1, 0)", "luck(1, MAX)", "luck(40, -1)", "luck(MIN, MIN)");
+        one().does("luck(40, 1)").bad("luck(41, 1)", "luck(0, 1)", "luck(1, 0)", "luck(1, MAX)", "luck(40, -1)",
+            "luck(MIN, MIN)");
     }
 
     // LOTS: 48271, 182605794, 1291394886, 1914720637, ... from seed 1; each by 16, cut, modulo 2 which PAGE.
     static void p42Lots() {
         int[] due = {0, 0, 0, 1, 1, 0};
         for (int n = 1; n <= 6; n++) {
-            one().due("luck(" + n + ", 1)", n).due("count(1)", n).due("count(2)", due[n - 1]).due("person(0, 5)", 1).due("asked()", n);
+            one().due("luck(" + n + ", 1)", n).due("count(1)", n).due("count(2)", due[n - 1]).due("person(0, 5)", 1)
+                .due("asked()", n);
         }
         Run printed = one().does("print(0, 1)", "print(0, 1)", "print(0, 1)", "print(1, 1)");
         one().does("luck(4, 1)").isAs(printed, "luck(4, 1)");
@@ -159,7 +163,8 @@ final class BetEdges {
 
     // The number modulo how many PEOPLE who reads: of six 1, 0, 0, 1, 1, 5.
     static void p42WhoReads() {
-        Run printed = Run.town(Run.SIX_ONES).does("print(0, 2)", "print(0, 1)", "print(0, 1)", "print(2, 2)", "print(2, 2)", "print(0, 32)");
+        Run printed = Run.town(Run.SIX_ONES).does("print(0, 2)", "print(0, 1)", "print(0, 1)", "print(2, 2)",
+            "print(2, 2)", "print(0, 32)");
         Run.town(Run.SIX_ONES).due("luck(6, 1)", 6).isAs(printed, "luck(6, 1)");
     }
 
@@ -173,7 +178,8 @@ final class BetEdges {
 
     // If none does, THE DAY goes by HABITS, nobody reads; how many were PRINTED: none.
     static void p42NonePrinted() {
-        Run x = Run.town(Run.SIX_REBELS).does("yesterday(255)").due("luck(40, 5)", 0).due("count(1)", 40).due("count(2)", 192);
+        Run x = Run.town(Run.SIX_REBELS).does("yesterday(255)").due("luck(40, 5)", 0).due("count(1)", 40)
+            .due("count(2)", 192);
         Run printed = Run.town(Run.SIX_REBELS).does("yesterday(255)");
         for (int day = 0; day < 40; day++) {
             printed.does("print(192, 0)");

@@ -102,7 +102,8 @@ final class DayEdges {
 
     // A FACT that somebody DOES is so, if one who DOES it makes it so: one of 2, the first or the last of 6.
     static void p16OneMakesItSo() {
-        Run.town("d01000000o0110o0100").still("day(0, 0)", 2).still("day(0, 1)", 0).still("day(1, 1)", 2).still("day(0, 2)", 2);
+        Run.town("d01000000o0110o0100").still("day(0, 0)", 2).still("day(0, 1)", 0).still("day(1, 1)", 2)
+            .still("day(0, 2)", 2);
         Run six = Run.town("d11111111o0100o0100o0100o0100o0100o0100");
         six.still("day(0, 0)", 253).still("day(1, 1)", 255).still("day(1, 32)", 255).still("day(0, 63)", 253);
     }
@@ -110,7 +111,8 @@ final class DayEdges {
     // Each other one as it is YESTERDAY, whatever is on the PAGE; without PEOPLE: all.
     static void p16AsYesterday() {
         Run x = Run.fresh();
-        x.still("day(0, 0)", 0).still("day(255, 0)", 0).does("yesterday(255)").still("day(0, 0)", 255).still("day(255, 0)", 255);
+        x.still("day(0, 0)", 0).still("day(255, 0)", 0).does("yesterday(255)").still("day(0, 0)", 255)
+            .still("day(255, 0)", 255);
         one().does("yesterday(255)").still("day(0, 0)", 254).still("day(0, 1)", 254).still("day(1, 1)", 255);
     }
 
@@ -190,7 +192,8 @@ final class DayEdges {
 
     // Behind one that is undone, one more can go.
     static void p18RoomAgain() {
-        behind40().full("print(0, 0)").due("undo(39)", 1).due("print(0, 0)", 40).full("print(0, 0)").due("undo(0)", 40).due("print(0, 0)", 1);
+        behind40().full("print(0, 0)").due("undo(39)", 1).due("print(0, 0)", 40).full("print(0, 0)").due("undo(0)", 40)
+            .due("print(0, 0)", 1);
     }
 
     // DAYS from number n on, 0 to how many went; BAD beyond.
@@ -217,7 +220,8 @@ final class DayEdges {
 
     // YESTERDAY as ahead of it, also if it was set between DAYS.
     static void p19Yesterday() {
-        Run.rich().due("undo(2)", 1).due("count(2)", 132).due("undo(1)", 1).due("count(2)", 132).due("undo(0)", 1).due("count(2)", 129);
+        Run.rich().due("undo(2)", 1).due("count(2)", 132).due("undo(1)", 1).due("count(2)", 132).due("undo(0)", 1)
+            .due("count(2)", 129);
         Run.rich().due("undo(1)", 2).due("count(2)", 132);
         Run.rich().due("undo(0)", 3).due("count(2)", 129);
         Run.rich().does("yesterday(3)").due("undo(2)", 1).due("count(2)", 132);
@@ -248,7 +252,8 @@ final class DayEdges {
 
     // Kept TOWNS stay.
     static void p19KeptStay() {
-        Run.rich().does("undo(0)").due("on(2)", 2).due("count(2)", 132).due("undo(1)", 1).due("on(0)", 1).due("count(2)", 133);
+        Run.rich().does("undo(0)").due("on(2)", 2).due("count(2)", 132).due("undo(1)", 1).due("on(0)", 1)
+            .due("count(2)", 133);
     }
 
     // A place 0 .. 2.
@@ -265,8 +270,10 @@ final class DayEdges {
 
     // How many DAYS: none, 40; all three places.
     static void p20HowManyDays() {
-        one().due("keep(0)", 0).due("count(8)", 1).due("keep(1)", 0).due("count(8)", 2).due("keep(2)", 0).due("count(8)", 3);
-        behind40().due("keep(0)", 40).due("undo(0)", 40).due("keep(2)", 0).due("on(0)", 40).due("count(1)", 40).due("on(2)", 0);
+        one().due("keep(0)", 0).due("count(8)", 1).due("keep(1)", 0).due("count(8)", 2).due("keep(2)", 0)
+            .due("count(8)", 3);
+        behind40().due("keep(0)", 40).due("undo(0)", 40).due("keep(2)", 0).due("on(0)", 40).due("count(1)", 40)
+            .due("on(2)", 0);
     }
 
     // A place that is taken takes the TOWN anew.
@@ -277,8 +284,8 @@ final class DayEdges {
     // Keeping changes nothing of the TOWN, and what comes behind it nothing of what is kept.
     static void p20IsKept() {
         Run kept = Run.rich().does("keep(1)");
-        Run changed = Run.rich().does("keep(1)", "undo(0)", "print(141, 8)", "yesterday(128)", "print(149, 16)", "print(133, 8)",
-            "habit(0, 0)", "yesterday(255)", "on(1)");
+        Run changed = Run.rich().does("keep(1)", "undo(0)", "print(141, 8)", "yesterday(128)", "print(149, 16)",
+            "print(133, 8)", "habit(0, 0)", "yesterday(255)", "on(1)");
         changed.isAs(kept, "on(1) behind changes");
     }
 
@@ -313,13 +320,15 @@ final class DayEdges {
 
     // ROWS, TEXTS, other kept TOWNS and what was told stay.
     static void p21TheRestStays() {
-        Run.rich().due("on(0)", 1).due("asked()", -77).due("upper()", 1).due("lower()", 4).due("finding()", 3).due("count(6)", 3)
+        Run.rich().due("on(0)", 1).due("asked()", -77).due("upper()", 1).due("lower()", 4).due("finding()", 3)
+            .due("count(6)", 3)
             .due("count(7)", 3).due("count(8)", 2).due("on(2)", 2).due("on(0)", 1);
     }
 
     // With its 40 DAYS: none more can go.
     static void p21WithItsDays() {
-        behind40().does("keep(2)", "undo(0)").due("print(0, 0)", 1).due("on(2)", 40).full("print(0, 0)").state("print(1, 0)");
+        behind40().does("keep(2)", "undo(0)").due("print(0, 0)", 1).due("on(2)", 40).full("print(0, 0)")
+            .state("print(1, 0)");
     }
 
     // All 40 DAYS are as they were kept, the last one, too: who read, and YESTERDAY ahead of each.

@@ -20,20 +20,23 @@ final class EditorEdges {
 
     // The fewest: nobody, one, all six.
     static void p35FromNobodyToAll() {
-        sixOnes().does("agrees(9, 0)").tells("edit(255, 0)", 0, 0).tells("edit(1, 255)", 1, 1).tells("edit(32, 32)", 1, 32)
+        sixOnes().does("agrees(9, 0)").tells("edit(255, 0)", 0, 0).tells("edit(1, 255)", 1, 1)
+            .tells("edit(32, 32)", 1, 32)
             .tells("edit(255, 31)", 5, 31).tells("edit(255, 63)", 6, 63).tells("edit(63, 255)", 6, 63);
         Run.rich().tells("edit(255, 133)", 0, 0).tells("edit(255, 132)", 1, 1).tells("edit(9, 8)", 2, 9);
     }
 
     // NONE: none; nothing is told then.
     static void p35None() {
-        sixOnes().does("pages(63)").still("edit(64, 64)", NONE).still("edit(255, 255)", NONE).still("edit(128, 255)", NONE);
+        sixOnes().does("pages(63)").still("edit(64, 64)", NONE).still("edit(255, 255)", NONE)
+            .still("edit(128, 255)", NONE);
         Run.rich().still("edit(2, 2)", NONE).still("edit(255, 0)", NONE);
     }
 
     // Without PEOPLE: nobody, if they are so YESTERDAY, else none.
     static void p35WithoutPeople() {
-        Run.fresh().does("yesterday(129)").tells("edit(255, 129)", 0, 0).tells("edit(1, 255)", 0, 0).still("edit(255, 128)", NONE)
+        Run.fresh().does("yesterday(129)").tells("edit(255, 129)", 0, 0).tells("edit(1, 255)", 0, 0)
+            .still("edit(255, 128)", NONE)
             .still("edit(2, 2)", NONE);
     }
 
@@ -49,7 +52,8 @@ final class EditorEdges {
         Run.rich().range("choose(#, 0, 0)", 0, 63).range("choose(0, #, 0)", 0, 255).range("choose(0, 0, #)", 0, 255);
         Run.town("d00000000o0000").range("choose(#, 0, 0)", 0, 1);
         Run.fresh().range("choose(#, 0, 0)", 0, 0).range("choose(0, #, 0)", 0, 255).range("choose(0, 0, #)", 0, 255);
-        Run.rich().bad("choose(64, 256, 256)", "choose(-1, -1, -1)", "choose(MIN, MAX, MIN)", "choose(2, 256, 0)", "choose(2, 0, -1)");
+        Run.rich().bad("choose(64, 256, 256)", "choose(-1, -1, -1)", "choose(MIN, MAX, MIN)", "choose(2, 256, 0)",
+            "choose(2, 0, -1)");
     }
 
     // The least: of all, of those with the last FACT, the greatest; nobody reads.
@@ -62,7 +66,8 @@ final class EditorEdges {
 
     // NONE: no PAGE with these FACTS so, or none at all.
     static void p36None() {
-        sixOnes().does("pages(63)").still("choose(63, 64, 64)", NONE).still("choose(63, 255, 255)", NONE).still("choose(1, 2, 2)", NONE)
+        sixOnes().does("pages(63)").still("choose(63, 64, 64)", NONE).still("choose(63, 255, 255)", NONE)
+            .still("choose(1, 2, 2)", NONE)
             .still("choose(0, 1, 1)", NONE);
         Run.rich().still("choose(2, 0, 0)", NONE).still("choose(63, 0, 0)", NONE);
         Run.fresh().still("choose(0, 1, 1)", NONE);
@@ -78,20 +83,23 @@ final class EditorEdges {
     // STATE: no PEOPLE; BAD ahead of it.
     static void p37WithoutPeople() {
         Run.fresh().state("lead(0, 0, 0)", "lead(255, 255, 5)", "lead(255, 0, 0)")
-            .bad("lead(256, 0, 0)", "lead(0, 256, 0)", "lead(0, 0, 6)", "lead(-1, 0, 0)", "lead(0, -1, 0)", "lead(0, 0, -1)");
+            .bad("lead(256, 0, 0)", "lead(0, 256, 0)", "lead(0, 0, 6)", "lead(-1, 0, 0)", "lead(0, -1, 0)",
+                "lead(0, 0, -1)");
         Run.rich().writes(0, "d00000000").does("town(0)").state("lead(0, 0, 1)", "lead(1, 1, 3)");
     }
 
     // 0: they are so YESTERDAY; the ROW is there anew, of none.
     static void p37NoDay() {
-        Run.rich().due("lead(255, 149, 1)", 0).rowIs(1).due("lead(0, 255, 2)", 0).rowIs(2).due("lead(128, 255, 3)", 0).rowIs(3)
+        Run.rich().due("lead(255, 149, 1)", 0).rowIs(1).due("lead(0, 255, 2)", 0).rowIs(2).due("lead(128, 255, 3)", 0)
+            .rowIs(3)
             .due("count(6)", 4).due("count(2)", 149).due("asked()", -77);
     }
 
     // One DAY: 1000 times who reads, and THE DAY; a ROW that is missing is there then, one of 40 has one place.
     static void p37OneDay() {
         sixOnes().due("lead(1, 1, 3)", 1).rowIs(3, 1).due("lead(32, 32, 3)", 1).rowIs(3, 5032).due("count(6)", 1);
-        Run.rich().due("lead(16, 0, 1)", 1).rowIs(1, 132).due("lead(8, 8, 5)", 1).rowIs(5, 3141).rowIs(1, 132).due("count(6)", 4);
+        Run.rich().due("lead(16, 0, 1)", 1).rowIs(1, 132).due("lead(8, 8, 5)", 1).rowIs(5, 3141).rowIs(1, 132)
+            .due("count(6)", 4);
     }
 
     // The last one reads, the greatest DAY comes.
@@ -125,7 +133,8 @@ final class EditorEdges {
     // By a longer ROW, a greater TOWN before: nothing of them is left.
     static void p37Again() {
         Run x = sixOnes().due("lead(32, 32, 0)", 1).rowIs(0, 5032).due("lead(32, 32, 0)", 1).rowIs(0, 5032);
-        x.does("text(3, 0)").writes(0, "d00000000r0000").does("town(0)").still("lead(1, 1, 0)", NONE).still("lead(32, 32, 0)", NONE);
+        x.does("text(3, 0)").writes(0, "d00000000r0000").does("town(0)").still("lead(1, 1, 0)", NONE)
+            .still("lead(32, 32, 0)", NONE);
     }
 
     // NONE: not by 4; the ROW stays as it was, there or missing.
@@ -154,7 +163,8 @@ final class EditorEdges {
 
     // It alone, if nothing else comes.
     static void p38Alone() {
-        Run.town(Run.SIX_REBELS).does("agrees(9, 0)").tells("reach()", 1, 0).does("yesterday(1)").tells("reach()", 2, 1);
+        Run.town(Run.SIX_REBELS).does("agrees(9, 0)").tells("reach()", 1, 0).does("yesterday(1)")
+            .tells("reach()", 2, 1);
         Run.town("d11111111o0110").tells("reach()", 1, 255);
     }
 
@@ -167,7 +177,8 @@ final class EditorEdges {
     static void p38Again() {
         Run x = Run.fresh().does("yesterday(255)").tells("reach()", 1, 255).tells("reach()", 1, 255);
         x.does("yesterday(0)").tells("reach()", 1, 0).does("yesterday(255)").tells("reach()", 1, 255);
-        sixOnes().tells("reach()", 7, 32).tells("reach()", 7, 32).writes(0, "d00000000r0000").does("town(0)").tells("reach()", 1, 0);
+        sixOnes().tells("reach()", 7, 32).tells("reach()", 7, 32).writes(0, "d00000000r0000").does("town(0)")
+            .tells("reach()", 1, 0);
     }
 
     // By any DAYS: the 40 that can be PRINTED do not bind it.

@@ -9,7 +9,8 @@ import java.util.Arrays;
  */
 public final class GridTest {
     private static final int MIN = Integer.MIN_VALUE, MAX = Integer.MAX_VALUE;
-    private static final int[] WIDE = {MIN, -1, 0, 1, 2, 3, 5, 6, 7, 39, 40, 41, 63, 64, 79, 80, 81, 133, 255, 256, MAX - 1, MAX};
+    private static final int[] WIDE = {MIN, -1, 0, 1, 2, 3, 5, 6, 7, 39, 40, 41, 63, 64, 79, 80, 81, 133, 255, 256,
+        MAX - 1, MAX};
     private static final int[] NARROW = {MIN, -1, 0, 1, 2, 3, 5, 6, 40, 41, 255, 256, MAX};
     /** The document promises nothing of an object that has had more than 512 calls. */
     private static final int CALLS_OF_ONE = 70;
@@ -111,8 +112,8 @@ public final class GridTest {
         if (got != want) {
             wrong++;
             if (wrong <= 5) {
-                System.out.println(what + method.getName() + Arrays.toString(numbers) + " in '" + town + "' answered " + got
-                    + ", due is " + want);
+                String call = method.getName() + Arrays.toString(numbers) + " in '" + town + "'";
+                System.out.println(what + call + " answered " + got + ", due is " + want);
             }
         }
     }

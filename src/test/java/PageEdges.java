@@ -25,7 +25,8 @@ final class PageEdges {
 
     // How many: none (NONE by asked()), one, two, 64.
     static void p22HowMany() {
-        Run.rich().tells("pages(2)", 0, NONE).tells("pages(0)", 1, 133).tells("pages(1)", 2, 132).tells("pages(63)", 0, NONE);
+        Run.rich().tells("pages(2)", 0, NONE).tells("pages(0)", 1, 133).tells("pages(1)", 2, 132)
+            .tells("pages(63)", 0, NONE);
         sixOnes().tells("pages(0)", 1, 0).tells("pages(63)", 64, 0).does("yesterday(255)").tells("pages(63)", 64, 192);
     }
 
@@ -51,7 +52,8 @@ final class PageEdges {
         for (int i = 0; i < 64; i++) {
             x.due("nth(" + i + ", 63)", i);
         }
-        x.still("nth(0, 63)", 0).still("nth(63, 63)", 63).still("nth(0, 32)", 0).still("nth(1, 32)", 32).still("nth(0, 0)", 0);
+        x.still("nth(0, 63)", 0).still("nth(63, 63)", 63).still("nth(0, 32)", 0).still("nth(1, 32)", 32)
+            .still("nth(0, 0)", 0);
     }
 
     // NOUGHT: there are not so many.
@@ -63,7 +65,8 @@ final class PageEdges {
 
     // BAD ahead of NOUGHT.
     static void p23BadAheadOfNought() {
-        Run.rich().bad("nth(-1, 2)", "nth(0, 64)", "nth(9, 64)", "nth(9, -1)", "nth(-1, -1)", "nth(MIN, MIN)", "nth(MAX, MAX)");
+        Run.rich().bad("nth(-1, 2)", "nth(0, 64)", "nth(9, 64)", "nth(9, -1)", "nth(-1, -1)", "nth(MIN, MIN)",
+            "nth(MAX, MAX)");
     }
 
     // A set of readers.
@@ -85,13 +88,15 @@ final class PageEdges {
 
     // Of 64 PAGES: what nobody DOES alone.
     static void p24ManyPages() {
-        sixOnes().tells("sure(63)", 0, 192).does("yesterday(255)").tells("sure(63)", 192, 0).does("yesterday(64)").tells("sure(63)", 64, 128);
+        sixOnes().tells("sure(63)", 0, 192).does("yesterday(255)").tells("sure(63)", 192, 0).does("yesterday(64)")
+            .tells("sure(63)", 64, 128);
         Run.rich().tells("sure(1)", 132, 122);
     }
 
     // Of fewer PAGES behind more of them.
     static void p24Again() {
-        sixOnes().tells("sure(63)", 0, 192).tells("sure(0)", 0, 255).tells("sure(63)", 0, 192).does("yesterday(255)").tells("sure(0)", 192, 63);
+        sixOnes().tells("sure(63)", 0, 192).tells("sure(0)", 0, 255).tells("sure(63)", 0, 192).does("yesterday(255)")
+            .tells("sure(0)", 192, 63);
     }
 
     // A set of readers, a set of FACTS, a PAGE.
@@ -105,6 +110,7 @@ final class PageEdges {
     // Nothing is seen: all of them, whatever is on the PAGE.
     static void p25NothingSeen() {
         sixOnes().tells("torn(63, 0, 0)", 64, 0).tells("torn(63, 0, 255)", 64, 0);
+        Run.fresh().does("yesterday(255)").tells("torn(0, 0, 0)", 1, 255).tells("torn(0, 255, 0)", 0, NONE);
     }
 
     // All is seen: that PAGE, or none.
@@ -139,7 +145,8 @@ final class PageEdges {
 
     // Fewest at most: not the first FACT, if a later one leaves fewer.
     static void p26ALaterOne() {
-        Run.town("d00000000o7700o6600").tells("look(3, 0, 0)", 6, 2).tells("look(3, 64, 0)", 7, 1).tells("look(1, 0, 0)", 7, 1);
+        Run.town("d00000000o7700o6600").tells("look(3, 0, 0)", 6, 2).tells("look(3, 64, 0)", 7, 1)
+            .tells("look(1, 0, 0)", 7, 1);
     }
 
     // One is left: the first FACT not seen, and one is left then.

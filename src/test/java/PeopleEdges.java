@@ -18,10 +18,12 @@ final class PeopleEdges {
     // The least and the greatest of each: KIND 0, 5; WATCHES, DOES 0, 7; HABIT 0, 1; NERVE 0, 6.
     static void p12LeastAndGreatest() {
         Run x = Run.town("d00000000 o0000 f7716 o7000 f0700 o0010 f0006");
-        int[][] due = {{0, 0, 0, 0, 0}, {5, 7, 7, 1, 6}, {0, 7, 0, 0, 0}, {5, 0, 7, 0, 0}, {0, 0, 0, 1, 0}, {5, 0, 0, 0, 6}};
+        int[][] due = {{0, 0, 0, 0, 0}, {5, 7, 7, 1, 6}, {0, 7, 0, 0, 0}, {5, 0, 7, 0, 0}, {0, 0, 0, 1, 0}, {5, 0, 0, 0,
+            6}};
         for (int one = 0; one < 6; one++) {
             for (int what = 0; what < 5; what++) {
-                x.again().does("yesterday(5)", "agrees(250, 0)").tells("person(" + one + ", " + what + ")", 1, due[one][what]);
+                x.again().does("yesterday(5)", "agrees(250, 0)")
+                    .tells("person(" + one + ", " + what + ")", 1, due[one][what]);
             }
         }
     }
@@ -83,7 +85,8 @@ final class PeopleEdges {
 
     // BAD ahead of UNLIKE.
     static void p13BadAheadOfUnlike() {
-        Run.rich().bad("mark(0, 0)", "mark(0, 6)", "mark(6, 2)", "mark(-1, 5)", "mark(6, 0)", "mark(MIN, MIN)", "mark(MAX, MAX)");
+        Run.rich().bad("mark(0, 0)", "mark(0, 6)", "mark(6, 2)", "mark(-1, 5)", "mark(6, 0)", "mark(MIN, MIN)",
+            "mark(MAX, MAX)");
     }
 
     // A REBEL: how many others DO what that one WATCHES: none (not oneself) to 5; a SLY one, too.
@@ -99,9 +102,11 @@ final class PeopleEdges {
     // A STAYER: whether what that one WATCHES is so YESTERDAY (1, 0): the first FACT, the last.
     static void p13Stayer() {
         Run first = Run.town("d00000000s0711");
-        first.still("mark(0, 2)", 0).does("yesterday(1)").still("mark(0, 2)", 1).does("yesterday(254)").still("mark(0, 2)", 0);
+        first.still("mark(0, 2)", 0).does("yesterday(1)").still("mark(0, 2)", 1).does("yesterday(254)")
+            .still("mark(0, 2)", 0);
         Run last = Run.town("d00000001s7011");
-        last.still("mark(0, 2)", 1).does("yesterday(127)").still("mark(0, 2)", 0).does("yesterday(255)").still("mark(0, 2)", 1);
+        last.still("mark(0, 2)", 1).does("yesterday(127)").still("mark(0, 2)", 0).does("yesterday(255)")
+            .still("mark(0, 2)", 1);
     }
 
     // A GAMBLER: how many others DO the same: none to 5; a FOOL, too.
@@ -164,7 +169,8 @@ final class PeopleEdges {
 
     // What it was: the least, the greatest.
     static void p15WhatItWas() {
-        Run.fresh().due("yesterday(255)", 0).due("count(2)", 255).due("yesterday(0)", 255).due("count(2)", 0).due("yesterday(0)", 0);
+        Run.fresh().due("yesterday(255)", 0).due("count(2)", 255).due("yesterday(0)", 255).due("count(2)", 0)
+            .due("yesterday(0)", 0);
         Run.rich().due("yesterday(0)", 149).due("yesterday(149)", 0).isAs(Run.rich(), "YESTERDAY set and set back");
     }
 

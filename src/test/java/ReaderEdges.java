@@ -67,12 +67,14 @@ final class ReaderEdges {
 
     // Without PEOPLE: nobody did, if it is as YESTERDAY.
     static void p30Nobody() {
-        Run.fresh().tells("who(0)", 0, 1).tells("who(255)", 0, 0).does("yesterday(255)").tells("who(255)", 0, 1).tells("who(0)", 0, 0);
+        Run.fresh().tells("who(0)", 0, 1).tells("who(255)", 0, 0).does("yesterday(255)").tells("who(255)", 0, 1)
+            .tells("who(0)", 0, 0);
     }
 
     // None, some, all six can; it can be that nobody did (1), it can't (0).
     static void p30Who() {
-        Run.rich().tells("who(133)", 25, 1).tells("who(132)", 1, 0).tells("who(149)", 16, 0).tells("who(0)", 0, 0).tells("who(255)", 0, 0);
+        Run.rich().tells("who(133)", 25, 1).tells("who(132)", 1, 0).tells("who(149)", 16, 0).tells("who(0)", 0, 0)
+            .tells("who(255)", 0, 0);
         sixOnes().tells("who(0)", 63, 1).tells("who(1)", 1, 0).tells("who(32)", 32, 0).tells("who(3)", 0, 0);
         sixRebels().tells("who(0)", 0, 1).tells("who(1)", 0, 0);
     }
@@ -90,7 +92,8 @@ final class ReaderEdges {
 
     // By none (NONE), by one, by all 64 sets.
     static void p31HowMany() {
-        sixOnes().tells("sets(63)", 1, 63).tells("sets(0)", 64, 0).tells("sets(64)", 0, NONE).tells("sets(128)", 0, NONE);
+        sixOnes().tells("sets(63)", 1, 63).tells("sets(0)", 64, 0).tells("sets(64)", 0, NONE)
+            .tells("sets(128)", 0, NONE);
         sixOnes().tells("sets(1)", 32, 1).tells("sets(32)", 32, 32).tells("sets(33)", 16, 33);
         sixRebels().tells("sets(0)", 1, 0).tells("sets(63)", 0, NONE);
     }
@@ -123,7 +126,8 @@ final class ReaderEdges {
 
     // BAD ahead of NOUGHT.
     static void p32BadAheadOfNought() {
-        Run.rich().bad("holds(6, 0)", "holds(-1, 0)", "holds(0, 256)", "holds(0, -1)", "holds(6, 256)", "holds(MIN, MAX)");
+        Run.rich().bad("holds(6, 0)", "holds(-1, 0)", "holds(0, 256)", "holds(0, -1)", "holds(6, 256)",
+            "holds(MIN, MAX)");
     }
 
     // PEOPLE are 0, 1, ..: each of the two.
@@ -144,28 +148,32 @@ final class ReaderEdges {
 
     // Sets of FACTS.
     static void p33WhichFacts() {
-        Run.rich().range("halves(0, #, 3, 0)", 0, 255).range("halves(0, 0, 3, #)", 0, 255).range("halves(0, #, 3, #)", 0, 255);
+        Run.rich().range("halves(0, #, 3, 0)", 0, 255).range("halves(0, 0, 3, #)", 0, 255)
+            .range("halves(0, #, 3, #)", 0, 255);
         Run.rich().bad("halves(6, 256, 6, 256)", "halves(MIN, MIN, MAX, MAX)");
     }
 
     // Nothing is seen: nobody reads; all is seen: both do.
     static void p33NothingAndAll() {
-        Run.rich().tells("halves(0, 0, 3, 0)", 1, 133).tells("halves(0, 255, 3, 255)", 4, 132).tells("halves(0, 255, 1, 255)", 0, NONE)
-            .tells("halves(0, 255, 1, 0)", 2, 132).tells("halves(1, 0, 0, 255)", 2, 132).tells("halves(1, 255, 0, 0)", 0, NONE);
+        Run.rich().tells("halves(0, 0, 3, 0)", 1, 133).tells("halves(0, 255, 3, 255)", 4, 132)
+            .tells("halves(0, 255, 1, 255)", 0, NONE)
+            .tells("halves(0, 255, 1, 0)", 2, 132).tells("halves(1, 0, 0, 255)", 2, 132)
+                .tells("halves(1, 255, 0, 0)", 0, NONE);
     }
 
     // Who does not see what one WATCHES does not read it: the first FACT, the last.
     static void p33WhatOneWatches() {
         Run x = Run.town("d00000000o0000o7700");
         x.tells("halves(0, 1, 1, 128)", 4, 0).tells("halves(0, 254, 1, 127)", 1, 0).tells("halves(0, 1, 1, 127)", 2, 0)
-            .tells("halves(0, 254, 1, 128)", 2, 0).tells("halves(1, 128, 0, 1)", 4, 0).tells("halves(1, 1, 0, 128)", 1, 0);
+            .tells("halves(0, 254, 1, 128)", 2, 0).tells("halves(1, 128, 0, 1)", 4, 0)
+                .tells("halves(1, 1, 0, 128)", 1, 0);
     }
 
     // What one WATCHES counts, not what one DOES.
     static void p33NotWhatOneDoes() {
-        Run x = Run.town("d00000000o0100o7610");
-        x.tells("halves(0, 1, 1, 128)", 1, 0).tells("halves(0, 2, 1, 64)", 1, 64).tells("halves(0, 1, 1, 64)", 1, 64)
-            .tells("halves(0, 2, 1, 128)", 1, 0);
+        Run x = Run.town("d00000000o0110o7610");
+        x.tells("halves(0, 1, 1, 128)", 1, 0).tells("halves(0, 2, 1, 64)", 1, 66).tells("halves(0, 1, 1, 64)", 1, 64)
+            .tells("halves(0, 2, 1, 128)", 1, 2);
     }
 
     // One who does not read is no other one for a SLY one.
@@ -189,8 +197,10 @@ final class ReaderEdges {
 
     // One could, if nobody else makes it so: of what is so, and of what is not.
     static void p34Could() {
-        Run.rich().still("spoil(0, 133)", 1).still("spoil(0, 132)", 1).still("spoil(3, 141)", 1).still("spoil(4, 133)", 1);
-        Run.town("d00000000o7700o0700o0700o0700o0700o0700").still("spoil(0, 0)", 1).still("spoil(0, 128)", 1).still("spoil(5, 0)", 1);
+        Run.rich().still("spoil(0, 133)", 1).still("spoil(0, 132)", 1).still("spoil(3, 141)", 1)
+            .still("spoil(4, 133)", 1);
+        Run.town("d00000000o7700o0700o0700o0700o0700o0700").still("spoil(0, 0)", 1).still("spoil(0, 128)", 1)
+            .still("spoil(5, 0)", 1);
     }
 
     // One could not, if another one makes it so, too: the first, the last of six.

@@ -118,7 +118,8 @@ final class RowEdges {
     // In one of 40 there are places 0 .. 39.
     static void p03Of40() {
         Run x = Run.rich().due("lay(1, 0, 7)", 1).due("asked()", MIN).due("lay(1, 39, 8)", 1).due("asked()", MAX);
-        x.due("at(1, 0)", 1).due("asked()", 7).due("at(1, 39)", 1).due("asked()", 8).due("at(1, 38)", 1).due("asked()", 0);
+        x.due("at(1, 0)", 1).due("asked()", 7).due("at(1, 39)", 1).due("asked()", 8).due("at(1, 38)", 1)
+            .due("asked()", 0);
         x.found(BEYOND, "lay(1, -1, 1)", "lay(1, 40, 1)", "lay(1, MIN, 1)", "lay(1, MAX, 1)");
     }
 
@@ -197,7 +198,8 @@ final class RowEdges {
 
     // ROWS are 0 .. 5, both of them.
     static void p06WhichRows() {
-        Run.rich().range("copy(#, 0, 1, 0, 1)", 0, 5).range("copy(1, 0, #, 0, 1)", 0, 5).range("copy(#, 0, #, 0, 1)", 0, 5);
+        Run.rich().range("copy(#, 0, 1, 0, 1)", 0, 5).range("copy(1, 0, #, 0, 1)", 0, 5)
+            .range("copy(#, 0, #, 0, 1)", 0, 5);
     }
 
     // SIZE: n below 0.
@@ -228,9 +230,11 @@ final class RowEdges {
 
     // BEYOND: not so many there, by one, on either side.
     static void p06OneTooMany() {
-        Run.rich().does("row(3, 40)").found(BEYOND, "copy(1, 0, 3, 0, 41)", "copy(1, 1, 3, 0, 40)", "copy(1, 0, 3, 1, 40)",
-            "copy(1, 39, 3, 0, 2)", "copy(1, 0, 3, 39, 2)", "copy(1, 40, 3, 0, 1)", "copy(1, 0, 3, 40, 1)");
-        Run.rich().found(BEYOND, "copy(1, 37, 2, 0, 4)", "copy(2, 0, 1, 0, 4)", "copy(0, 0, 1, 0, 1)", "copy(1, 0, 0, 0, 1)");
+        Run.rich().does("row(3, 40)").found(BEYOND, "copy(1, 0, 3, 0, 41)", "copy(1, 1, 3, 0, 40)",
+            "copy(1, 0, 3, 1, 40)", "copy(1, 39, 3, 0, 2)", "copy(1, 0, 3, 39, 2)", "copy(1, 40, 3, 0, 1)",
+            "copy(1, 0, 3, 40, 1)");
+        Run.rich().found(BEYOND, "copy(1, 37, 2, 0, 4)", "copy(2, 0, 1, 0, 4)", "copy(0, 0, 1, 0, 1)",
+            "copy(1, 0, 0, 0, 1)");
     }
 
     // Just so many there, on either side.
@@ -248,20 +252,24 @@ final class RowEdges {
     // BEYOND: also where place and n together run over the greatest int.
     static void p06RunningOver() {
         Run.rich().found(BEYOND, "copy(1, MAX, 2, 0, 1)", "copy(1, 0, 2, MAX, 1)", "copy(1, 1, 2, 0, MAX)",
-            "copy(1, MAX, 2, MAX, MAX)", "copy(1, MIN, 2, 0, MAX)", "copy(1, 0, 2, 0, MAX)", "copy(2, 2, 2, 2, 2147483646)");
+            "copy(1, MAX, 2, MAX, MAX)", "copy(1, MIN, 2, 0, MAX)", "copy(1, 0, 2, 0, MAX)",
+                "copy(2, 2, 2, 2, 2147483646)");
     }
 
     // NOTHING: either is missing, or both.
     static void p06Missing() {
-        Run.rich().found(NOTHING, "copy(3, 0, 1, 0, 1)", "copy(1, 0, 3, 0, 1)", "copy(3, 0, 4, 0, 1)", "copy(5, 0, 5, 0, 0)");
+        Run.rich().found(NOTHING, "copy(3, 0, 1, 0, 1)", "copy(1, 0, 3, 0, 1)", "copy(3, 0, 4, 0, 1)",
+            "copy(5, 0, 5, 0, 0)");
     }
 
     // The first that fits: BAD, SIZE, NOTHING, BEYOND.
     static void p06Order() {
         Run.rich().bad("copy(6, 0, 1, 0, -1)", "copy(1, 0, 6, 0, -1)", "copy(-1, 0, 3, 0, 1)", "copy(3, 0, -1, 0, 1)",
             "copy(6, 99, 1, 0, 1)", "copy(1, 0, 6, 99, 1)")
-            .found(SIZE, "copy(3, 0, 1, 0, -1)", "copy(1, 0, 3, 0, -1)", "copy(1, 99, 2, 0, -1)", "copy(1, MIN, 2, MIN, MIN)")
-            .found(NOTHING, "copy(3, 99, 1, 0, 1)", "copy(1, 0, 3, -1, 1)", "copy(1, 99, 3, 0, 1)", "copy(3, 0, 1, 0, MAX)");
+            .found(SIZE, "copy(3, 0, 1, 0, -1)", "copy(1, 0, 3, 0, -1)", "copy(1, 99, 2, 0, -1)",
+                "copy(1, MIN, 2, MIN, MIN)")
+            .found(NOTHING, "copy(3, 99, 1, 0, 1)", "copy(1, 0, 3, -1, 1)", "copy(1, 99, 3, 0, 1)",
+                "copy(3, 0, 1, 0, MAX)");
     }
 
     // Perhaps itself, as if taken ahead: up, down, and onto itself.

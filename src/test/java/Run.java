@@ -240,7 +240,7 @@ final class Run {
         return this;
     }
 
-    /** A number at # is BAD just outside of least .. greatest, and as the least and the greatest int; within it is not. */
+    /** A number at # is BAD just outside of least .. greatest, and as the least or greatest int; within it is not. */
     Run range(String call, int least, int greatest) {
         for (int v : new int[] {MIN, least - 1, greatest + 1, MAX}) {
             again().bad(call.replace("#", "" + v));

@@ -43,7 +43,8 @@ final class TextEdges {
 
     // The first that fits: BAD ahead of a FINDING.
     static void p08BadAheadOfSize() {
-        Run.rich().bad("text(4, -1)", "text(-1, -1)", "text(MIN, MIN)", "text(MAX, MIN)", "text(-1, 81)", "text(4, MAX)");
+        Run.rich().bad("text(4, -1)", "text(-1, -1)", "text(MIN, MIN)", "text(MAX, MIN)", "text(-1, 81)",
+            "text(4, MAX)");
     }
 
     // Blanks, also where another TEXT stood there.
@@ -55,7 +56,8 @@ final class TextEdges {
 
     // It is that TEXT alone; the TOWN that was by it stays.
     static void p08TheOthersStay() {
-        Run.rich().does("text(3, 80)").due("put(1, 79, 1)", 944).due("count(0)", 6).due("count(1)", 3).due("count(8)", 2);
+        Run.rich().does("text(3, 80)").due("put(1, 79, 1)", 944).due("count(0)", 6).due("count(1)", 3)
+            .due("count(8)", 2);
     }
 
     // TEXTS are 0 .. 3.
@@ -76,7 +78,8 @@ final class TextEdges {
 
     // In one of 80 there are places 0 .. 79.
     static void p09Of80() {
-        Run.rich().due("put(1, 0, 65)", 1032).due("put(1, 0, 66)", 1065).due("put(1, 79, 67)", 944).due("put(1, 79, 68)", 1067)
+        Run.rich().due("put(1, 0, 65)", 1032).due("put(1, 0, 66)", 1065).due("put(1, 79, 67)", 944)
+            .due("put(1, 79, 68)", 1067)
             .due("put(1, 78, 69)", 1032).due("asked()", -77)
             .found(BEYOND, "put(1, -1, 1)", "put(1, 80, 1)", "put(1, MIN, 1)", "put(1, MAX, 1)");
     }
@@ -299,7 +302,8 @@ final class TextEdges {
     // STATE: a FAULT; the TOWN, its DAYS and the kept TOWNS stay.
     static void p11AFault() {
         Run.rich().state("town(0)", "town(1)");
-        for (String signs : new String[] {" ", "d0000000", "d00000000o000", "d00000000o0007", SIX + "o0000", SIX + "?"}) {
+        for (String signs : new String[] {" ", "d0000000", "d00000000o000", "d00000000o0007", SIX + "o0000",
+            SIX + "?"}) {
             Run.rich().writes(2, signs).state("town(2)");
         }
     }
@@ -307,7 +311,8 @@ final class TextEdges {
     // How many PEOPLE: none to 6.
     static void p11HowMany() {
         for (int people = 0; people <= 6; people++) {
-            Run x = Run.fresh().writes(0, SIX.substring(0, 9 + 5 * people)).due("town(0)", people).due("count(0)", people);
+            Run x = Run.fresh().writes(0, SIX.substring(0, 9 + 5 * people)).due("town(0)", people)
+                .due("count(0)", people);
             x.bad("person(" + people + ", 0)");
         }
     }
@@ -315,7 +320,8 @@ final class TextEdges {
     // Anew: no DAYS, PAGES read neither; kept TOWNS go, all three; ROWS, TEXTS and what was told stay.
     static void p11Anew() {
         Run x = Run.rich().does("keep(1)").due("count(8)", 3).due("count(1)", 3).due("town(3)", 6);
-        x.due("count(8)", 0).due("count(1)", 0).due("count(2)", 129).due("asked()", -77).due("upper()", 1).due("lower()", 4);
+        x.due("count(8)", 0).due("count(1)", 0).due("count(2)", 129).due("asked()", -77).due("upper()", 1)
+            .due("lower()", 4);
         x.due("count(6)", 3).due("count(7)", 3).bad("undo(1)").found(NOTHING, "on(0)", "on(1)", "on(2)");
         for (int one = 0; one < 6; one++) {
             x.due("person(" + one + ", 5)", 1).due("asked()", 0);
@@ -346,21 +352,28 @@ final class TextEdges {
     // Anew: nothing is so YESTERDAY that the TEXT does not tell, whatever TEXTS were looked at before.
     static void p11YesterdayAnew() {
         Run.fresh().writes(0, "d11111111").writes(1, "d00000000").does("town(0)").due("town(1)", 0).due("count(2)", 0);
-        Run.fresh().writes(0, "d11111111").writes(1, "d00100000").due("fault(0)", NONE).due("town(1)", 0).due("count(2)", 4);
-        Run.fresh().writes(0, "d1111111").writes(1, "d00000001").due("fault(0)", 8).due("town(1)", 0).due("count(2)", 128);
+        Run.fresh().writes(0, "d11111111").writes(1, "d00100000").due("fault(0)", NONE).due("town(1)", 0)
+            .due("count(2)", 4);
+        Run.fresh().writes(0, "d1111111").writes(1, "d00000001").due("fault(0)", 8).due("town(1)", 0)
+            .due("count(2)", 128);
         Run.fresh().writes(0, "d1111111").writes(1, "d00000000").state("town(0)").due("town(1)", 0).due("count(2)", 0);
     }
 
     // Anew: nothing is left of a greater TOWN, of its DAYS, of what was asked about it.
     static void p11NothingIsLeft() {
-        String[] about = {"pages(1)", "pages(0)", "torn(0, 1, 1)", "sure(0)", "look(0, 0, 0)", "mustNot()", "most()", "who(1)", "who(0)",
-            "sets(0)", "sets(1)", "edit(1, 1)", "edit(1, 0)", "choose(0, 1, 1)", "choose(0, 0, 0)", "lead(1, 1, 0)", "lead(2, 2, 0)",
-            "lead(1, 0, 0)", "reach()", "bet(0)", "numbers()", "nerve()", "luck(2, 1)", "odds(0, 0)", "holds(0, 0)", "mark(0, 1)"};
+        String[] about = {"pages(1)", "pages(0)", "torn(0, 1, 1)", "sure(0)", "look(0, 0, 0)", "mustNot()", "most()",
+            "who(1)", "who(0)",
+            "sets(0)", "sets(1)", "edit(1, 1)", "edit(1, 0)", "choose(0, 1, 1)", "choose(0, 0, 0)", "lead(1, 1, 0)",
+            "lead(2, 2, 0)", "lead(1, 0, 0)", "reach()", "bet(0)", "numbers()", "nerve()", "luck(2, 1)",
+            "odds(0, 0)", "holds(0, 0)",
+                "mark(0, 1)"};
         for (String call : about) {
             Run small = Run.fresh().writes(0, "d00000000r0001").does("town(0)", "agrees(0, 0)");
-            Run great = Run.town(Run.SIX_ONES).does("yesterday(255)", "luck(40, 1)", "pages(63)", "reach()", "keep(0)", "edit(255, 255)");
+            Run great = Run.town(Run.SIX_ONES).does("yesterday(255)", "luck(40, 1)", "pages(63)", "reach()", "keep(0)",
+                "edit(255, 255)");
             great.does("text(3, 0)").writes(0, "d00000000r0001").does("town(0)", "agrees(0, 0)");
-            great.due(call, small.answer(call)).due("asked()", small.answer("asked()")).due("count(2)", small.answer("count(2)"));
+            great.due(call, small.answer(call)).due("asked()", small.answer("asked()"))
+                .due("count(2)", small.answer("count(2)"));
         }
     }
 

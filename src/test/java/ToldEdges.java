@@ -4,26 +4,29 @@ final class ToldEdges {
     private static final int SIZE = Run.SIZE, NONE = Run.NONE, MIN = Run.MIN, MAX = Run.MAX;
 
     /** Calls that tell nothing by asked(), none of them refused in the rich one. */
-    private static final String[] SILENT = {"row(3, 40)", "tear(1)", "copy(1, 0, 2, 0, 3)", "text(2, 80)", "put(1, 0, 65)",
-        "fault(3)", "fault(1)", "town(3)", "mark(1, 1)", "mark(4, 4)", "habit(0, 0)", "yesterday(0)", "day(0, 0)", "print(133, 0)",
-        "undo(0)", "undo(3)", "keep(1)", "on(0)", "nth(0, 0)", "odds(0, 0)", "holds(0, 133)", "spoil(0, 133)", "choose(0, 0, 0)",
-        "choose(2, 0, 0)", "lead(1, 1, 0)", "lead(1, 0, 0)", "lead(2, 2, 0)", "luck(37, 1)", "asked()", "upper()", "lower()",
-        "count(0)", "finding()", "findings(1)", "digest()"};
+    private static final String[] SILENT = {
+        "row(3, 40)", "tear(1)", "copy(1, 0, 2, 0, 3)", "text(2, 80)", "put(1, 0, 65)", "fault(3)", "fault(1)", "town(3)",
+        "mark(1, 1)", "mark(4, 4)", "habit(0, 0)", "yesterday(0)", "day(0, 0)", "print(133, 0)", "undo(0)", "undo(3)",
+        "keep(1)", "on(0)", "nth(0, 0)", "odds(0, 0)", "holds(0, 133)", "spoil(0, 133)", "choose(0, 0, 0)",
+        "choose(2, 0, 0)", "lead(1, 1, 0)", "lead(1, 0, 0)", "lead(2, 2, 0)", "luck(37, 1)", "asked()", "upper()",
+        "lower()", "count(0)", "finding()", "findings(1)", "digest()"};
 
     /** Calls that tell something by asked(), and what they tell in the rich one. */
-    private static final String[] TELLING = {"lay(1, 0, 5)", "at(1, 39)", "mean(2)", "person(1, 4)", "agrees(132, 0)", "pages(1)",
-        "sure(0)", "torn(1, 1, 1)", "look(1, 0, 0)", "mustNot()", "most()", "who(133)", "sets(133)", "halves(0, 0, 3, 0)",
-        "edit(8, 8)", "reach()", "bet(0)", "numbers()", "nerve()"};
+    private static final String[] TELLING = {"lay(1, 0, 5)", "at(1, 39)", "mean(2)", "person(1, 4)", "agrees(132, 0)",
+        "pages(1)", "sure(0)", "torn(1, 1, 1)", "look(1, 0, 0)", "mustNot()", "most()", "who(133)", "sets(133)",
+        "halves(0, 0, 3, 0)", "edit(8, 8)", "reach()", "bet(0)", "numbers()", "nerve()"};
     private static final int[] TOLD = {MIN, MAX, -25, 5, 1, 132, 122, 133, 1, 3, 9, 1, 0, 133, 8, 149, 5, 1, 0};
 
     /** Calls of that kind that are refused. */
-    private static final String[] REFUSED = {"lay(1, 40, 5)", "lay(6, 0, 0)", "lay(3, 0, 0)", "at(1, 40)", "at(-1, 0)", "at(3, 0)",
-        "mean(0)", "mean(3)", "mean(6)", "person(6, 0)", "person(0, 6)", "agrees(256, 0)", "agrees(0, 64)", "pages(64)", "sure(64)",
-        "sure(2)", "torn(64, 0, 0)", "torn(0, 256, 0)", "torn(0, 0, 256)", "look(64, 0, 0)", "look(2, 0, 0)", "who(256)", "sets(256)",
-        "halves(0, 0, 0, 0)", "halves(0, 256, 1, 0)", "edit(256, 0)", "bet(7)", "bet(-1)"};
+    private static final String[] REFUSED = {
+        "lay(1, 40, 5)", "lay(6, 0, 0)", "lay(3, 0, 0)", "at(1, 40)", "at(-1, 0)", "at(3, 0)", "mean(0)", "mean(3)",
+        "mean(6)", "person(6, 0)", "person(0, 6)", "agrees(256, 0)", "agrees(0, 64)", "pages(64)", "sure(64)", "sure(2)",
+        "torn(64, 0, 0)", "torn(0, 256, 0)", "torn(0, 0, 256)", "look(64, 0, 0)", "look(2, 0, 0)", "who(256)",
+        "sets(256)", "halves(0, 0, 0, 0)", "halves(0, 256, 1, 0)", "edit(256, 0)", "bet(7)", "bet(-1)"};
 
     /** Calls that answer NONE. */
-    private static final String[] WITH_NONE = {"fault(3)", "look(0, 255, 133)", "edit(2, 2)", "choose(2, 0, 0)", "lead(2, 2, 0)"};
+    private static final String[] WITH_NONE = {"fault(3)", "look(0, 255, 133)", "edit(2, 2)", "choose(2, 0, 0)",
+        "lead(2, 2, 0)"};
 
     // 0 before.
     static void p43Before() {
@@ -75,7 +78,8 @@ final class ToldEdges {
 
     // Of the ODDS that were told last: 0, and the greatest that is no 1 by 1.
     static void p44TheLast() {
-        Run x = Run.town("d00000000o0000o1000o1100").due("odds(7, 0)", 1).due("upper()", 2).due("odds(7, 2)", 1).due("upper()", 0);
+        Run x = Run.town("d00000000o0000o1000o1100").due("odds(7, 0)", 1).due("upper()", 2).due("odds(7, 2)", 1)
+            .due("upper()", 0);
         x.due("holds(0, 1)", 1).due("upper()", 1);
     }
 
@@ -88,7 +92,8 @@ final class ToldEdges {
                 }
             }
         }
-        Run.rich().tries("odds(2, 0)", "odds(64, 0)", "odds(0, 8)", "holds(0, 0)", "holds(6, 0)").due("upper()", 1).due("lower()", 4);
+        Run.rich().tries("odds(2, 0)", "odds(64, 0)", "odds(0, 8)", "holds(0, 0)", "holds(6, 0)").due("upper()", 1)
+            .due("lower()", 4);
     }
 
     // 1 before.
@@ -98,8 +103,10 @@ final class ToldEdges {
 
     // The lower number above 0 (0 by 1), in lowest terms; up to 7 who alone can have it, or nobody.
     static void p45TheLast() {
-        Run.town("d00000000o0000o1000o1100").due("odds(7, 0)", 1).due("lower()", 3).due("odds(7, 2)", 1).due("lower()", 1);
-        Run.town(Run.SIX_ONES).due("odds(63, 0)", 1).due("lower()", 2).due("holds(0, 0)", 1).due("lower()", 7).due("holds(0, 1)", 1)
+        Run.town("d00000000o0000o1000o1100").due("odds(7, 0)", 1).due("lower()", 3).due("odds(7, 2)", 1)
+            .due("lower()", 1);
+        Run.town(Run.SIX_ONES).due("odds(63, 0)", 1).due("lower()", 2).due("holds(0, 0)", 1).due("lower()", 7)
+            .due("holds(0, 1)", 1)
             .due("lower()", 1).due("holds(1, 1)", 1).due("lower()", 1).due("upper()", 0);
     }
 
@@ -123,7 +130,8 @@ final class ToldEdges {
 
     // All there is room for: 6 PEOPLE, 40 DAYS, YESTERDAY 255, 6 ROWS, 4 TEXTS, 3 kept TOWNS; rows of none count.
     static void p46All() {
-        Run x = Run.town("d11111111r0010l1110r2210l3310r4410l5510").does("luck(40, 1)", "keep(0)", "keep(1)", "keep(2)");
+        Run x = Run.town("d11111111r0010l1110r2210l3310r4410l5510")
+            .does("luck(40, 1)", "keep(0)", "keep(1)", "keep(2)");
         for (int r = 0; r < 6; r++) {
             x.does("row(" + r + ", 0)");
         }
@@ -146,7 +154,8 @@ final class ToldEdges {
 
     // 0 before any.
     static void p47Before() {
-        Run.fresh().still("finding()", 0).bad("row(6, 0)").state("print(0, 0)").still("nerve()", NONE).still("finding()", 0);
+        Run.fresh().still("finding()", 0).bad("row(6, 0)").state("print(0, 0)").still("nerve()", NONE)
+            .still("finding()", 0);
     }
 
     // The latest, each of the five.
@@ -158,7 +167,8 @@ final class ToldEdges {
 
     // BAD, STATE, FULL and NONE are none, nor what is answered.
     static void p47NoFinding() {
-        Run x = Run.rich().tries("at(6, 0)", "town(0)", "print(0, 0)", "luck(38, 1)", "look(0, 255, 133)", "edit(2, 2)");
+        Run x = Run.rich().tries("at(6, 0)", "town(0)", "print(0, 0)", "luck(38, 1)", "look(0, 255, 133)",
+            "edit(2, 2)");
         x.due("finding()", 3);
         for (String[] calls : new String[][] {SILENT, TELLING, WITH_NONE}) {
             for (String call : calls) {
@@ -182,8 +192,10 @@ final class ToldEdges {
         for (int time = 1; time <= 100; time++) {
             x.tries("at(0, 0)");
         }
-        x.due("findings(1)", 100).due("findings(2)", 0).due("findings(3)", 0).due("findings(4)", 0).due("findings(5)", 0);
-        Run.rich().due("findings(1)", 1).due("findings(2)", 2).due("findings(3)", 1).due("findings(4)", 1).due("findings(5)", 1);
+        x.due("findings(1)", 100).due("findings(2)", 0).due("findings(3)", 0).due("findings(4)", 0)
+            .due("findings(5)", 0);
+        Run.rich().due("findings(1)", 1).due("findings(2)", 2).due("findings(3)", 1).due("findings(4)", 1)
+            .due("findings(5)", 1);
     }
 
     // They stay behind a new TOWN, and one gone on from.
