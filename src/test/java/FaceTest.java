@@ -130,6 +130,19 @@ public final class FaceTest {
             check.due("allowed: " + library.group(), allowed.contains(library.group()) ? 1 : 0, 1);
         }
         lengths(code.split("\n"));
+        made(code);
+    }
+
+    /** All calls of a run live in one room: objects are made with the program's object, none by a call. */
+    private static void made(String code) {
+        int from = code.indexOf("public TomorrowPage() {");
+        String calls = code.substring(0, from) + code.substring(code.indexOf("\n    }\n", from));
+        for (String line : calls.split("\n")) {
+            if (Pattern.compile("\\bnew\\b|\\bclone\\b").matcher(line).find()) {
+                boolean field = line.matches("^ {4,8}(private )?final [\\w\\[\\]]+ \\w+ = new .*;$");
+                check.due("made with the object: " + line.trim(), field ? 1 : 0, 1);
+            }
+        }
     }
 
     /** A method begins at a line that ends in "{" behind ")" and ends at "}" of the same indent. */

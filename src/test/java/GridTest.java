@@ -1,7 +1,5 @@
-import java.lang.reflect.InvocationTargetException;
 import java.lang.reflect.Method;
 import java.lang.reflect.Modifier;
-import java.util.Arrays;
 
 /**
  * Every call with every combination of numbers at the edges, in TOWNS of nobody, one and six: the program answers
@@ -12,46 +10,44 @@ public final class GridTest {
     private static final int[] WIDE = {MIN, -1, 0, 1, 2, 3, 5, 6, 7, 39, 40, 41, 63, 64, 79, 80, 81, 133, 255, 256,
         MAX - 1, MAX};
     private static final int[] NARROW = {MIN, -1, 0, 1, 2, 3, 5, 6, 40, 41, 255, 256, MAX};
-    /** The document promises nothing of an object that has had more than 512 calls. */
-    private static final int CALLS_OF_ONE = 70;
     private static final String[] TOWNS = {"", "d10000001 o0010", "d10000001 o0010 r1105 s2213 g3304 l4402 f5506"};
+    private static final String[] TOLD = {"asked", "upper", "lower", "finding"};
 
-    private final Method method;
-    private final Method due;
+    private final String name;
     private final String town;
-    private final Object[] numbers;
-    private TomorrowPage page;
-    private Model model;
+    private final int[] numbers;
+    private Pair pair = new Pair();
     private int calls = 0;
     private int wrong = 0;
 
-    private GridTest(Method method, String town) throws NoSuchMethodException {
-        this.method = method;
+    private GridTest(Method method, String town) {
+        name = method.getName();
         this.town = town;
-        due = Model.class.getDeclaredMethod(method.getName(), method.getParameterTypes());
-        numbers = new Object[method.getParameterCount()];
+        numbers = new int[method.getParameterCount()];
     }
 
-    public static void main(String[] args) throws ReflectiveOperationException {
+    public static void main(String[] args) {
         int calls = 0;
         int wrong = 0;
         for (String town : TOWNS) {
             for (Method method : TomorrowPage.class.getDeclaredMethods()) {
                 if (Modifier.isPublic(method.getModifiers()) && method.getParameterCount() > 0) {
                     GridTest grid = new GridTest(method, town);
+                    grid.begin();
                     grid.fill(0);
+                    grid.end();
                     calls += grid.calls;
                     wrong += grid.wrong;
                 }
             }
         }
-        System.out.println(calls + " calls, " + wrong + " answers not as due");
+        System.out.println(calls + " calls, " + wrong + " objects with answers not as due");
         if (wrong != 0 || calls == 0) {
             System.exit(1);
         }
     }
 
-    private void fill(int from) throws ReflectiveOperationException {
+    private void fill(int from) {
         if (from == numbers.length) {
             call();
             return;
@@ -62,58 +58,41 @@ public final class GridTest {
         }
     }
 
-    /** ROWS of 40, 3 and none, the TOWN's TEXT, one DAY, a kept TOWN. */
+    /** ROWS of 40, 3 and none, the TOWN's TEXT of 80, one DAY, a kept TOWN. */
     private void begin() {
-        page = new TomorrowPage();
-        model = new Model();
-        for (int[] row : new int[][] {{0, 40}, {1, 3}, {5, 0}}) {
-            page.row(row[0], row[1]);
-            model.row(row[0], row[1]);
-        }
-        page.lay(0, 39, 77);
-        model.lay(0, 39, 77);
-        page.text(3, 80);
-        model.text(3, 80);
-        for (int i = 0; i < town.length(); i++) {
-            page.put(3, i, town.charAt(i));
-            model.put(3, i, town.charAt(i));
-        }
-        page.town(3);
-        model.town(3);
-        page.print(133, 0);
-        model.print(133, 0);
-        page.keep(1);
-        model.keep(1);
+        pair = new Pair();
+        pair.call("row", 0, 40);
+        pair.call("row", 1, 3);
+        pair.call("row", 5, 0);
+        pair.call("lay", 0, 39, 77);
+        pair.write(3, town + " ".repeat(80 - town.length()));
+        pair.call("town", 3);
+        pair.call("print", 133, 0);
+        pair.call("keep", 1);
     }
 
-    private void call() throws ReflectiveOperationException {
-        if (calls % CALLS_OF_ONE == 0) {
+    private void call() {
+        if (pair.calls() + 1 + TOLD.length >= Pair.MOST_CALLS) {
+            end();
             begin();
         }
         calls++;
-        long want = ((Number) due.invoke(model, numbers)).longValue();
-        try {
-            long got = ((Number) method.invoke(page, numbers)).longValue();
-            compare("", got, want);
-            compare("is SPENT: ", got == TomorrowPage.SPENT ? 1 : 0, 0);
-        } catch (InvocationTargetException e) {
-            compare("threw " + e.getCause() + ": ", 1, 0);
+        pair.call(name, numbers);
+        if (pair.latest() == TomorrowPage.SPENT) {
+            System.out.println(name + " answered SPENT in '" + town + "'");
+            wrong++;
         }
-        compare("asked() behind ", page.asked(), model.asked);
-        compare("upper() behind ", page.upper(), model.upper);
-        compare("lower() behind ", page.lower(), model.lower);
-        compare("finding() behind ", page.finding(), model.finding);
-        if (calls % CALLS_OF_ONE == 0) {
-            compare("digest() behind ", page.digest(), model.digest());
+        for (String told : TOLD) {
+            pair.call(told);
         }
     }
 
-    private void compare(String what, long got, long want) {
-        if (got != want) {
+    private void end() {
+        pair.call("digest");
+        if (!pair.unlike().isEmpty()) {
             wrong++;
             if (wrong <= 5) {
-                String call = method.getName() + Arrays.toString(numbers) + " in '" + town + "'";
-                System.out.println(what + call + " answered " + got + ", due is " + want);
+                System.out.println("in '" + town + "' " + pair.unlike());
             }
         }
     }

@@ -4,7 +4,7 @@ import java.util.List;
 
 /**
  * The document once more, written without any thrift: sets as lists, every PAGE and every way tried.
- * ModelTest holds the program against it.
+ * ModelTest and GridTest hold the program against it.
  */
 final class Model {
     static final int BAD = -1, FULL = -2, FINDING = -3, STATE = -4, NONE = -9;
@@ -280,7 +280,7 @@ final class Model {
         return all;
     }
 
-    private List<Integer> agreeing(int readers) {
+    List<Integer> agreeing(int readers) {
         return agreeing(now.yesterday, readers);
     }
 
@@ -669,6 +669,22 @@ final class Model {
             case 8: return (int) Arrays.stream(kept).filter(place -> place != null).count();
             default: return BAD;
         }
+    }
+
+    int asked() {
+        return asked;
+    }
+
+    long upper() {
+        return upper;
+    }
+
+    long lower() {
+        return lower;
+    }
+
+    int finding() {
+        return finding;
     }
 
     int findings(int f) {

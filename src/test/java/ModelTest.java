@@ -1,89 +1,173 @@
+import java.util.List;
+import java.util.Map;
 import java.util.Random;
+import java.util.TreeMap;
 
-/** Many runs of calls by lots, with the program and the Model side by side; all that can be asked is compared. */
+/**
+ * Runs by lots with the program and the Model side by side, each of just the 512 calls that an object is promised
+ * for. Each call of the document is in turn the last one of a run.
+ */
 public final class ModelTest {
-    private static final int RUNS = 700, CALLS = 250, CALL_KINDS = 43;
+    private static final int RUNS = 960;
+    /** A call and the kinds of its numbers, as number() takes them. */
+    private static final String[] CALLS = {
+        "row r n", "lay r i v", "at r i", "tear r", "copy r i r i i", "mean r", "text t m", "put t j v", "fault t", "town t",
+        "person x w", "mark x k", "habit x h", "yesterday d",
+        "day p s", "agrees p s", "print p s", "undo u", "keep e", "on e",
+        "pages s", "nth z s", "sure s", "torn s f p", "look s f p", "odds s a",
+        "mustNot", "most", "who p", "sets p", "holds x p", "halves x f x f", "spoil x p",
+        "edit f p", "choose s f p", "lead f p r", "reach",
+        "bet b", "numbers", "nerve", "luck l q",
+        "asked", "upper", "lower", "count o", "finding", "findings g", "digest"};
+    /** They show what the calls ahead of them did, so they come more often than the others. */
+    private static final String[] TELLING = {"asked", "asked", "upper", "lower", "finding", "findings g", "count o", "digest",
+        "digest", "digest", "digest"};
+    /** They undo what was built up, so most of them are left out. */
+    private static final List<String> SELDOM = List.of("tear r", "text t m", "town t", "undo u", "on e", "luck l q");
     private static final int[] ODD = {-1, Integer.MIN_VALUE, Integer.MAX_VALUE, 256, 41, 81, 7, 64, -128, 1000};
-    private final Random lots;
-    private final TomorrowPage page = new TomorrowPage();
-    private final Model model = new Model();
-    private String call = "";
+    /** A TOWN takes at most 80 puts and three calls more; ten calls and the last one close a run. */
+    private static final int TOWN_CALLS = 83, CLOSING_CALLS = 11;
 
-    private ModelTest(long seed) {
+    private final Random lots;
+    private final Pair pair = new Pair();
+    private final Map<String, Integer> answered;
+    private int readers = 0;
+
+    private ModelTest(long seed, Map<String, Integer> answered) {
         lots = new Random(seed);
+        this.answered = answered;
     }
 
     public static void main(String[] args) {
         long first = args.length > 0 ? Long.parseLong(args[0]) : 1;
-        int wrong = 0;
         int runs = args.length > 1 ? Integer.parseInt(args[1]) : RUNS;
+        int wrong = 0;
+        Map<String, Integer> answered = new TreeMap<>();
         for (long seed = first; seed < first + runs && wrong < 5; seed++) {
-            if (!new ModelTest(seed).run(seed)) {
+            ModelTest test = new ModelTest(seed, answered);
+            test.run(CALLS[(int) Math.floorMod(seed, CALLS.length)]);
+            if (!test.pair.unlike().isEmpty() || test.pair.calls() != Pair.MOST_CALLS) {
+                System.out.println("seed " + seed + ", " + test.pair.calls() + " calls, " + test.pair.unlike());
                 wrong++;
             }
         }
-        System.out.println(runs + " runs of " + CALLS + " calls, " + wrong + " not as due");
+        for (String call : CALLS) {
+            if (wrong == 0 && runs >= RUNS && answered.getOrDefault(call, 0) < runs / 10) {
+                System.out.println("hardly ever answered: " + call);
+                wrong++;
+            }
+        }
+        System.out.println(runs + " runs of " + Pair.MOST_CALLS + " calls, " + wrong + " not as due");
         if (wrong != 0) {
             System.exit(1);
         }
     }
 
-    private boolean run(long seed) {
-        for (int i = 0; i < CALLS; i++) {
-            int which = lots.nextInt(CALL_KINDS + 12);
-            long[] both = which >= CALL_KINDS ? writeTown() : callOne(which);
-            String unlike = both[0] != both[1] ? both[0] + ", due is " + both[1] : unlikeState();
-            if (!unlike.isEmpty()) {
-                System.out.println("seed " + seed + " call " + i + ": " + call + " answered " + unlike);
-                return false;
+    private void run(String last) {
+        if (lots.nextInt(12) > 0) {
+            makeTown();
+        }
+        while (left() > CLOSING_CALLS) {
+            if (lots.nextInt(150) == 0 && left() > TOWN_CALLS + CLOSING_CALLS) {
+                makeTown();
+            } else {
+                makeOne();
             }
         }
-        return true;
+        for (String name : new String[] {"asked", "upper", "lower", "finding", "digest"}) {
+            pair.call(name);
+        }
+        for (int f = 1; f <= 5; f++) {
+            pair.call("findings", f);
+        }
+        make(last);
     }
 
-    private String unlikeState() {
-        if (page.asked() != model.asked) return "- asked() " + page.asked() + ", due is " + model.asked;
-        if (page.upper() != model.upper) return "- upper() " + page.upper() + ", due is " + model.upper;
-        if (page.lower() != model.lower) return "- lower() " + page.lower() + ", due is " + model.lower;
-        if (page.finding() != model.finding) return "- finding() " + page.finding() + ", due is " + model.finding;
-        for (int f = 0; f <= 6; f++) {
-            if (page.findings(f) != model.findings(f)) return "- findings(" + f + ")";
-        }
-        for (int what = -1; what <= 9; what++) {
-            if (page.count(what) != model.count(what)) return "- count(" + what + ")";
-        }
-        if (page.digest() != model.digest()) return "- digest()";
-        return "";
+    private int left() {
+        return Pair.MOST_CALLS - pair.calls();
     }
 
-    /** A number below a bound, now and then one that is odd. */
+    private void makeOne() {
+        String call = CALLS[lots.nextInt(CALLS.length)];
+        if (lots.nextInt(3) == 0) {
+            make(TELLING[lots.nextInt(TELLING.length)]);
+        } else if (!SELDOM.contains(call) || lots.nextInt(4) == 0) {
+            make(call);
+        }
+    }
+
+    private void make(String call) {
+        String[] parts = call.split(" ");
+        int[] numbers = new int[parts.length - 1];
+        readers = someReaders();
+        for (int i = 0; i < numbers.length; i++) {
+            numbers[i] = lots.nextInt(40) == 0 ? ODD[lots.nextInt(ODD.length)] : number(parts[i + 1].charAt(0));
+        }
+        boolean alike = pair.call(parts[0], numbers);
+        if (alike && pair.latest() >= 0 || call.equals("digest")) {
+            answered.merge(call, 1, Integer::sum);
+        }
+    }
+
     private int to(int bound) {
-        return lots.nextInt(40) == 0 ? ODD[lots.nextInt(ODD.length)] : lots.nextInt(Math.max(1, bound));
+        return lots.nextInt(Math.max(1, bound));
     }
 
-    private int one() {
-        return to(model.now.people.size());
+    private int people() {
+        return pair.model.now.people.size();
     }
 
-    private int set() {
-        int people = model.now.people.size();
-        return lots.nextInt(3) == 0 && people > 0 ? 1 << lots.nextInt(people) : to(1 << people);
+    private int someReaders() {
+        return lots.nextInt(3) == 0 && people() > 0 ? 1 << to(people()) : to(1 << people());
+    }
+
+    private int number(char kind) {
+        switch (kind) {
+            case 'r': return to(6);
+            case 'n': return to(41);
+            case 'i': return to(12);
+            case 'v': return lots.nextInt(4) == 0 ? lots.nextInt() : lots.nextInt(200) - 100;
+            case 't': return to(4);
+            case 'm': return to(81);
+            case 'j': return to(80);
+            case 'w': return to(6);
+            case 'k': return 1 + to(5);
+            case 'h': return to(2);
+            case 'd': return to(256);
+            case 'e': return to(3);
+            case 'z': return to(3);
+            case 'a': return to(8);
+            case 'b': return to(7);
+            case 'o': return to(9);
+            case 'g': return 1 + to(5);
+            default: return numberOfTown(kind);
+        }
+    }
+
+    private int numberOfTown(char kind) {
+        switch (kind) {
+            case 'x': {
+                int x = to(people());
+                readers = lots.nextInt(4) == 0 ? readers : 1 << x;
+                return x;
+            }
+            case 's': return readers;
+            case 'p': return somePage();
+            case 'f': return lots.nextInt(3) == 0 ? to(256) : 1 << to(8) | 1 << to(8);
+            case 'u': return to(pair.model.now.days.size() + 2);
+            case 'l': return lots.nextInt(2) == 0 ? to(41) : 1 + to(5);
+            case 'q': return lots.nextInt(30) == 0 ? to(2) : 1 + to(2147483646);
+            default: throw new IllegalStateException("no such kind: " + kind);
+        }
     }
 
     /** A PAGE, often one that AGREES with the readers. */
-    private int pageFor(int readers) {
-        int many = lots.nextInt(4) == 0 ? 0 : page.pages(readers);
-        model.pages(readers);
-        page.pages(readers);
-        return many > 0 ? model.nth(lots.nextInt(many), readers) : to(256);
+    private int somePage() {
+        List<Integer> all = lots.nextInt(4) == 0 ? List.of() : pair.model.agreeing(readers);
+        return all.isEmpty() ? to(256) : all.get(to(all.size()));
     }
 
-    /** A set of few FACTS more often than not. */
-    private int facts() {
-        return lots.nextInt(3) == 0 ? to(256) : 1 << lots.nextInt(8) | 1 << lots.nextInt(8);
-    }
-
-    private String someTown() {
+    private String someSigns() {
         StringBuilder signs = new StringBuilder(" ".repeat(lots.nextInt(3))).append('d');
         int facts = 1 + lots.nextInt(8);
         for (int i = 0; i < 8; i++) {
@@ -95,7 +179,7 @@ public final class ModelTest {
             signs.append(lots.nextInt(facts)).append(lots.nextInt(facts)).append(lots.nextInt(2)).append(lots.nextInt(7));
         }
         signs.append(" ".repeat(lots.nextInt(3)));
-        if (lots.nextInt(6) == 0) {
+        if (lots.nextInt(8) == 0) {
             signs.setCharAt(lots.nextInt(signs.length()), "drso01238 x".charAt(lots.nextInt(11)));
         }
         if (lots.nextInt(12) == 0) {
@@ -104,136 +188,10 @@ public final class ModelTest {
         return signs.toString();
     }
 
-    private long[] writeTown() {
-        if (lots.nextInt(6) != 0) {
-            return callOne(lots.nextInt(CALL_KINDS));
-        }
+    private void makeTown() {
         int t = lots.nextInt(4);
-        String signs = someTown();
-        page.text(t, signs.length());
-        model.text(t, signs.length());
-        for (int i = 0; i < signs.length(); i++) {
-            page.put(t, i, signs.charAt(i));
-            model.put(t, i, signs.charAt(i));
-        }
-        call = "fault of '" + signs + "'";
-        if (page.fault(t) != model.fault(t)) {
-            return both(call, page.fault(t), model.fault(t));
-        }
-        return both("town of '" + signs + "'", page.town(t), model.town(t));
-    }
-
-    private long[] both(String what, long got, long due) {
-        call = what;
-        return new long[] {got, due};
-    }
-
-    private long[] callOne(int which) {
-        if (which < 15) {
-            return callOfRowsAndTowns(which);
-        }
-        return which < 28 ? callOfPages(which) : callOfReaders(which);
-    }
-
-    private long[] callOfRowsAndTowns(int which) {
-        int a = to(6);
-        int b = to(12);
-        int c = to(6);
-        int d = to(12);
-        int e = to(12);
-        int t = to(4);
-        int v = lots.nextInt(4) == 0 ? lots.nextInt() : lots.nextInt(200) - 100;
-        int x = one();
-        int n = to(41);
-        switch (which) {
-            case 0: return both("row(" + a + ", " + n + ")", page.row(a, n), model.row(a, n));
-            case 1: return both("lay(" + a + ", " + b + ", " + v + ")", page.lay(a, b, v), model.lay(a, b, v));
-            case 2: return both("at(" + a + ", " + b + ")", page.at(a, b), model.at(a, b));
-            case 3: return lots.nextInt(3) > 0 ? both("-", 0, 0) : both("tear(" + a + ")", page.tear(a), model.tear(a));
-            case 4: return both("copy(" + a + ", " + b + ", " + c + ", " + d + ", " + e + ")",
-                page.copy(a, b, c, d, e), model.copy(a, b, c, d, e));
-            case 5: return both("mean(" + a + ")", page.mean(a), model.mean(a));
-            case 6: return lots.nextInt(3) > 0 ? both("-", 0, 0) : both("text(" + t + ", " + n + ")", page.text(t, n), model.text(t, n));
-            case 7: return both("put(" + t + ", " + n + ", " + v + ")", page.put(t, n, v), model.put(t, n, v));
-            case 8: return both("fault(" + t + ")", page.fault(t), model.fault(t));
-            case 9: return both("town(" + t + ")", page.town(t), model.town(t));
-            case 10: return both("person(" + x + ", " + a + ")", page.person(x, a), model.person(x, a));
-            case 11: return both("mark(" + x + ", " + a + ")", page.mark(x, a), model.mark(x, a));
-            case 12: {
-                int h = to(2);
-                return both("habit(" + x + ", " + h + ")", page.habit(x, h), model.habit(x, h));
-            }
-            case 13: {
-                int day = to(256);
-                return both("yesterday(" + day + ")", page.yesterday(day), model.yesterday(day));
-            }
-            default: return both("mark(" + x + ", 4)", page.mark(x, 4), model.mark(x, 4));
-        }
-    }
-
-    private long[] callOfPages(int which) {
-        int s = set();
-        int p = pageFor(s);
-        int f = facts();
-        int k = to(3);
-        int i = to(3);
-        int n = to(41);
-        switch (which) {
-            case 15: return both("day(" + p + ", " + s + ")", page.day(p, s), model.day(p, s));
-            case 16: return both("agrees(" + p + ", " + s + ")", page.agrees(p, s), model.agrees(p, s));
-            case 17: return both("print(" + p + ", " + s + ")", page.print(p, s), model.print(p, s));
-            case 18: {
-                int from = to(model.now.days.size() + 2);
-                return both("undo(" + from + ")", page.undo(from), model.undo(from));
-            }
-            case 19: return both("keep(" + k + ")", page.keep(k), model.keep(k));
-            case 20: return both("on(" + k + ")", page.on(k), model.on(k));
-            case 21: return both("pages(" + s + ")", page.pages(s), model.pages(s));
-            case 22: return both("nth(" + i + ", " + s + ")", page.nth(i, s), model.nth(i, s));
-            case 23: return both("sure(" + s + ")", page.sure(s), model.sure(s));
-            case 24: return both("torn(" + s + ", " + f + ", " + p + ")", page.torn(s, f, p), model.torn(s, f, p));
-            case 25: return both("look(" + s + ", " + f + ", " + p + ")", page.look(s, f, p), model.look(s, f, p));
-            case 26: {
-                int fact = to(8);
-                return both("odds(" + s + ", " + fact + ")", page.odds(s, fact), model.odds(s, fact));
-            }
-            default: {
-                int seed = lots.nextInt(30) == 0 ? to(1) : 1 + lots.nextInt(2147483646);
-                int days = lots.nextInt(2) == 0 ? n : 1 + lots.nextInt(5);
-                return both("luck(" + days + ", " + seed + ")", page.luck(days, seed), model.luck(days, seed));
-            }
-        }
-    }
-
-    private long[] callOfReaders(int which) {
-        int s = set();
-        int p = pageFor(s);
-        int x = one();
-        int y = one();
-        int f = facts();
-        int g = facts();
-        int r = to(6);
-        int n = to(7);
-        switch (which) {
-            case 28: return both("mustNot()", page.mustNot(), model.mustNot());
-            case 29: return both("most()", page.most(), model.most());
-            case 30: return both("who(" + p + ")", page.who(p), model.who(p));
-            case 31: return both("sets(" + p + ")", page.sets(p), model.sets(p));
-            case 32: return both("holds(" + x + ", " + p + ")", page.holds(x, p), model.holds(x, p));
-            case 33: return both("halves(" + x + ", " + f + ", " + y + ", " + g + ")",
-                page.halves(x, f, y, g), model.halves(x, f, y, g));
-            case 34: return both("spoil(" + x + ", " + p + ")", page.spoil(x, p), model.spoil(x, p));
-            case 35: return both("edit(" + f + ", " + p + ")", page.edit(f, p), model.edit(f, p));
-            case 36: return both("choose(" + s + ", " + f + ", " + p + ")", page.choose(s, f, p), model.choose(s, f, p));
-            case 37: return both("lead(" + f + ", " + p + ", " + r + ")", page.lead(f, p, r), model.lead(f, p, r));
-            case 38: return both("reach()", page.reach(), model.reach());
-            case 39: return both("bet(" + n + ")", page.bet(n), model.bet(n));
-            case 40: return both("numbers()", page.numbers(), model.numbers());
-            case 41: return both("nerve()", page.nerve(), model.nerve());
-            default: {
-                int alone = x >= 0 && x < 6 ? pageFor(1 << x) : p;
-                return both("spoil(" + x + ", " + alone + ")", page.spoil(x, alone), model.spoil(x, alone));
-            }
-        }
+        pair.write(t, someSigns());
+        pair.call("fault", t);
+        pair.call("town", t);
     }
 }

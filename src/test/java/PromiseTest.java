@@ -385,21 +385,24 @@ public final class PromiseTest {
 
     private static void mark() {
         check.part("13 mark");
-        TomorrowPage x = Check.town("d00100000 r2000 s2100 g5210 l2310 f4200 o0200");
+        String signs = "d00100000 r2000 s2100 g5210 l2310 f4200 o0200";
         int[][] due = {{3, 0, 0, 0, 0}, {0, 1, 0, 0, 0}, {0, 0, 2, 0, 0}, {3, 0, 0, 1, 0}, {0, 0, 2, 0, 1}, {0, 0, 0, 0, 0}};
         int[][] of = {{1, 0, 0, 0, 0}, {0, 1, 0, 0, 0}, {0, 0, 1, 0, 0}, {1, 0, 0, 1, 0}, {0, 0, 1, 0, 1}, {0, 0, 0, 0, 0}};
         for (int one = 0; one < 6; one++) {
+            TomorrowPage own = Check.town(signs);
             for (int kind = 1; kind <= 5; kind++) {
                 int who = one;
                 int as = kind;
                 String call = "mark(" + one + ", " + kind + ")";
                 if (of[one][kind - 1] == 1) {
-                    check.due(call, x.mark(one, kind), due[one][kind - 1]);
+                    check.due(call, own.mark(one, kind), due[one][kind - 1]);
                 } else {
-                    check.found(call, x, () -> x.mark(who, as), UNLIKE);
+                    check.found(call, own, () -> own.mark(who, as), UNLIKE);
                 }
             }
         }
+        TomorrowPage x = Check.town(signs);
+        x.mark(3, 4);
         check.due("asked()", x.asked(), 0);
         x.yesterday(0);
         check.due("mark(1, 2)", x.mark(1, 2), 0);

@@ -109,6 +109,10 @@ final class Run {
         return call.on(page);
     }
 
+    int calls() {
+        return calls.size();
+    }
+
     long answer(String call) {
         return make(new Call(call));
     }

@@ -204,7 +204,7 @@ final class ToldEdges {
         Run.rich().does("on(0)").due("findings(2)", 2).due("finding()", 3);
     }
 
-    private static long fold(long before, long... values) {
+    static long fold(long before, long... values) {
         long h = before;
         for (long v : values) {
             h = 31 * h + v;
@@ -212,7 +212,7 @@ final class ToldEdges {
         return h;
     }
 
-    private static long foldSame(long before, int times, long v) {
+    static long foldSame(long before, int times, long v) {
         long h = before;
         for (int i = 0; i < times; i++) {
             h = 31 * h + v;
